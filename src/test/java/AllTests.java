@@ -1,0 +1,13 @@
+/** Every test of the project; ends with 1 if one fails. */
+public final class AllTests {
+    private AllTests() { }
+
+    public static void main(String[] args) {
+        int runs = args.length > 1 ? Integer.parseInt(args[1]) : 3000;
+        RandomRuns.run(1, runs);
+        System.out.println(Check.closingLine());
+        if (Check.failed() > 0) {
+            System.exit(1);
+        }
+    }
+}
