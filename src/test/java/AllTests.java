@@ -4,6 +4,16 @@ public final class AllTests {
 
     public static void main(String[] args) {
         int runs = args.length > 1 ? Integer.parseInt(args[1]) : 3000;
+        TextTest.run();
+        IsleTest.run();
+        RideTest.run();
+        PlanTest.run();
+        SeenTest.run();
+        SumsTest.run();
+        ActsTest.run();
+        SlotTest.run();
+        EdgeTest.run();
+        LanguageTest.run(args.length > 0 ? args[0] : "src/main/java/NeckRider.java");
         RandomRuns.run(1, runs);
         System.out.println(Check.closingLine());
         if (Check.failed() > 0) {
