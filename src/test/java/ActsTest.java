@@ -106,14 +106,22 @@ final class ActsTest {
         Check.due("61: undo", x.undo(), 1);
         Check.due("61: undo", x.undo(), 0);
         Check.due("61: there is none", x.undo(), -5);
-        Check.due("13: as without", x.at(4), 2);
+        asWithout(x);
         x.offer(2);
         x.toss(3);
         Check.due("62: anew", x.anew(), 2);
         Check.due("62: all are", x.count(8), 0);
-        Check.due("13: as without", x.at(4), 2);
+        asWithout(x);
         for (int h = 0; h < 8; h++) x.toss(h);
         Check.due("62: as many as hours", x.anew(), 8);
+    }
+
+    private static void asWithout(NeckRider x) {
+        int[] places = {0, 3, 3, 2, 2, 2, 2, 2, 2};
+        for (int h = 0; h < places.length; h++) {
+            Check.due("13: as without, " + h, x.at(h), places[h]);
+            Check.due("14: as without, " + h, x.on(h), 0);
+        }
     }
 
     private static void grows() {

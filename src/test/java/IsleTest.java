@@ -71,6 +71,9 @@ final class IsleTest {
         Check.tell(x, "isle places 3 hours 1 weight 1 odds 0;path 0 to 1;tree at 0 fruit 0;"
             + "tree at 2 fruit 1;tree at 1 fruit 1;bearer at 2 strength 1;bearer at 0 strength 1;");
         Check.due("35: from bearer 0, bare trees too", x.lone(), 5);
+        Check.tell(x, "isle places 2 hours 1 weight 1 odds 0;tree at 0 fruit 1;tree at 1 fruit 1;"
+            + "bearer at 1 strength 1;");
+        Check.due("35: of one bearer", x.lone(), 1);
     }
 
     private static void steering() {

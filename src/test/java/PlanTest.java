@@ -1,5 +1,12 @@
 /** Promises 37 to 46: plans, and what would be otherwise. */
 final class PlanTest {
+    /** He is thrown in the last of twelve hours at best, carried to place 0 from his meal. */
+    static final String LONGEST = "isle places 2 hours 12 weight 1 odds 0;path 0 to 1;"
+        + "tree at 1 fruit 9;vine at 1 ripe 9;brook at 0;bearer at 0 strength 99;";
+    static final String LINE = "isle places 7 hours 8 weight 16 odds 0;path 0 to 1;path 1 to 2;"
+        + "path 2 to 3;path 3 to 4;path 4 to 5;path 5 to 6;tree at 1 fruit 1;tree at 2 fruit 1;"
+        + "tree at 6 fruit 1;bearer at 0 strength 99;";
+
     private PlanTest() { }
 
     static void run() {
@@ -12,6 +19,7 @@ final class PlanTest {
         dams();
         needs();
         drops();
+        longest();
         triedOut();
     }
 
@@ -214,6 +222,26 @@ final class PlanTest {
         Check.due("46: the least weight", x.drops(), 1);
         Check.tell(x, RideTest.DROPPED.replace("at 0 strength 9", "at 0 strength 39"));
         Check.due("46: the greatest weight", x.drops(), 20);
+    }
+
+    private static void longest() {
+        NeckRider x = Check.told(LONGEST);
+        Check.due("37: in the twelfth hour", x.rid(), 11);
+        Check.due("38: ways", x.ways(), 1);
+        plan(x, 0, 0, 0, 0, 0, 0, 0, 0, 0, 1, 10, 2);
+        Check.due("43: in its own place", x.dam(1), 10);
+        Check.due("44: dams", x.dams(), 1);
+        Check.due("42: no tree, no wine", x.bent(0), -1);
+        Check.tell(x, LONGEST.replace("ripe 9", "ripe 10"));
+        Check.due("37: in the thirteenth there is none", x.rid(), -1);
+        Check.due("44: dams", x.dams(), 1);
+        Check.tell(x, LONGEST.replace("ripe 9", "ripe 12").replace("brook at 0", "brook at 1"));
+        Check.due("37: ripe behind the last hour", x.rid(), -1);
+        Check.tell(x, LINE);
+        Check.due("45: the greatest strength", x.needs(0), 99);
+        Check.tell(x, LINE.replace("weight 16", "weight 17"));
+        Check.due("45: no strength is enough", x.needs(0), -1);
+        Check.due("24: he falls", x.fallen(), 1);
     }
 
     /** A plan, acted, throws him in that hour; left out its last act, it does not. */

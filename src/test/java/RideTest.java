@@ -34,6 +34,7 @@ final class RideTest {
         ripening();
         lastMoment();
         shorterThanBefore();
+        twelveHours();
     }
 
     private static void aRide() {
@@ -242,6 +243,25 @@ final class RideTest {
         row("36: ripe in the last hour", x::ripens, 7);
     }
 
+    /** The longest isle, to its last moment: he eats of 1 from hour 1 to 9. */
+    private static void twelveHours() {
+        NeckRider x = Check.told(PlanTest.LONGEST);
+        row("13: at", x::at, 0, 1, 1, 1, 1, 1, 1, 1, 1, 1, 1, 1, 1);
+        row("14: on", x::on, 0, 0, 0, 0, 0, 0, 0, 0, 0, 0, 0, 0, 0);
+        row("15: weighs", x::weighs, 1, 1, 2, 3, 4, 5, 6, 7, 8, 9, 10, 10, 10);
+        row("16: tired", h -> x.tired(0, h), 0, 1, 0, 0, 0, 0, 0, 0, 0, 0, 0, 0, 0);
+        row("17: fruit", h -> x.fruit(0, h), 9, 9, 8, 7, 6, 5, 4, 3, 2, 1, 0, 0, 0);
+        row("18: does", x::does, 3, 2, 2, 2, 2, 2, 2, 2, 2, 2, 4, 4);
+        row("28: stays", x::stays, 1, 8190);
+        row("29: left", x::left, 9, 9, 8, 7, 6, 5, 4, 3, 2, 1, 0, 0, 0);
+        Check.due("31: hungry", x.hungry(), 10);
+        Check.due("36: ripens", x.ripens(0), 9);
+        // On a line of six paths, fed twice on the way: 16, 13, 30, 27, 45, 63, 81, 99.
+        Check.tell(x, PlanTest.LINE);
+        row("16: tired", h -> x.tired(0, h), 0, 16, 13, 30, 27, 45, 63, 81, 99);
+        Check.due("30: the last moment, too", x.peak(0), 99);
+    }
+
     /** Nothing of the hours, bearers and trees of a longer ride is left in a shorter one. */
     private static void shorterThanBefore() {
         NeckRider x = Check.told(IsleTest.SQUARE.replace("odds 4", "odds 10"));
@@ -260,6 +280,8 @@ final class RideTest {
         Check.due("20: over", x.over(), -1);
         Check.due("21: how", x.how(), -1);
         Check.due("24: fallen", x.fallen(), 0);
+        Check.due("29: no fruit of trees that are gone", x.left(0), 0);
+        Check.due("35: lone", x.lone(), 0);
     }
 
     /** HOURS are 0 .. hours less 1 where no other bound is told; stays() tells one. */

@@ -160,5 +160,11 @@ final class SumsTest {
         x.toss(4);
         day(x, 2, 4, 0, 1);
         day(x, 0, 1, 1, 1);
+        Check.tell(x, "isle places 2 hours 1 weight 1 odds 1;tree at 0 fruit 1;"
+            + "bearer at 0 strength 1;");
+        day(x, 0, 0, 1, 1);
+        day(x, 11, -1, 0, 1);
+        Check.due("64: none twice chokes", x.luck(11, 2), 0);
+        Check.due("64: two of five", x.luck(11, 5), 2);
     }
 }
