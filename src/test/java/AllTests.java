@@ -5,7 +5,9 @@ public final class AllTests {
     public static void main(String[] args) {
         int runs = args.length > 1 ? Integer.parseInt(args[1]) : 3000;
         TextTest.run();
+        TextBounds.run();
         IsleTest.run();
+        IsleBounds.run();
         RideTest.run();
         PlanTest.run();
         SeenTest.run();
