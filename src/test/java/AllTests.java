@@ -9,6 +9,7 @@ public final class AllTests {
         IsleTest.run();
         IsleBounds.run();
         RideTest.run();
+        RideBounds.run();
         PlanTest.run();
         SeenTest.run();
         SumsTest.run();
