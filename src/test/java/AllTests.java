@@ -11,6 +11,7 @@ public final class AllTests {
         RideTest.run();
         RideBounds.run();
         PlanTest.run();
+        PlanBounds.run();
         SeenTest.run();
         SumsTest.run();
         ActsTest.run();
