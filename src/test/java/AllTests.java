@@ -13,12 +13,17 @@ public final class AllTests {
         PlanTest.run();
         PlanBounds.run();
         SeenTest.run();
+        SeenBounds.run();
         SumsTest.run();
+        SumsBounds.run();
         ActsTest.run();
+        ActsBounds.run();
         SlotTest.run();
+        SlotBounds.run();
         EdgeTest.run();
         LanguageTest.run(args.length > 0 ? args[0] : "src/main/java/NeckRider.java");
         RandomRuns.run(1, runs);
+        Check.everyPromise();
         System.out.println(Check.closingLine());
         if (Check.failed() > 0) {
             System.exit(1);

@@ -1,11 +1,16 @@
 /** Counts the answers that were asked for, and tells those that are not as due. */
 final class Check {
+    private static final int PROMISES = 71;
+
     private static int passed = 0;
     private static int failed = 0;
+    private static final int[] rows = new int[PROMISES + 1];
 
     private Check() { }
 
+    /** What is asked begins with the number of its promise, where it is of one. */
     static void due(String what, long got, long want) {
+        countRow(what);
         if (got == want) {
             passed++;
         } else {
@@ -13,6 +18,22 @@ final class Check {
             if (failed <= 200) {
                 System.out.println("FAILED " + what + ": answered " + got + ", due is " + want);
             }
+        }
+    }
+
+    private static void countRow(String what) {
+        int promise = 0;
+        int i = 0;
+        while (i < what.length() && Character.isDigit(what.charAt(i)) && promise <= PROMISES) {
+            promise = promise * 10 + what.charAt(i++) - '0';
+        }
+        if (i > 0 && promise <= PROMISES && what.startsWith(":", i)) rows[promise]++;
+    }
+
+    /** Each promise has rows of its own. */
+    static void everyPromise() {
+        for (int promise = 1; promise <= PROMISES; promise++) {
+            holds("promise " + promise + " is tested, by " + rows[promise], rows[promise] >= 10);
         }
     }
 
