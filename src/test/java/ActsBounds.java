@@ -19,6 +19,7 @@ final class ActsBounds {
         undoEmpty();
         anewEmpty();
         grown();
+        grownStays();
         growRefused();
         imageBounds();
         backRefused();
@@ -235,6 +236,26 @@ final class ActsBounds {
         x.offer(0);
         x.undo();
         Check.due("65: none that is not taken back", x.grow(4, 0), 8);
+    }
+
+    /** Neither undo() nor anew() takes back what has grown; another text does. */
+    private static void grownStays() {
+        NeckRider x = Check.told(ISLE);
+        x.grow(0, 4);
+        String grown = State.ofIsle(x);
+        x.offer(0);
+        x.undo();
+        State.same("61: acts alone", State.ofIsle(x), grown);
+        x.offer(0);
+        x.toss(1);
+        x.anew();
+        State.same("62: acts alone", State.ofIsle(x), grown);
+        Check.tell(x, ISLE);
+        State.same("4: as told", State.ofIsle(x), State.ofIsle(Check.told(ISLE)));
+        // What he eats is not what is told.
+        Check.due("17: eaten", x.fruit(0, 12), 0);
+        Check.due("6: as told", x.tree(0, 1), 9);
+        Check.due("65: what it was", x.grow(0, 9), 9);
     }
 
     /** 65: "-2: there are none such; -5: there are acts that are not taken back". */

@@ -132,6 +132,9 @@ final class RideBounds {
         Check.due("25: NONE: none", x.worst(), -1);
         Check.due("26: NONE: he is carried none", x.share(0, 0), -1);
         Check.due("26: NONE: he is carried none", x.share(0, 1), -1);
+        // There are none such, though he is carried none.
+        Bounds.of("26: a BEARER", 0, 0, -2, b -> x.share(b, 0));
+        Bounds.of("26: what", 0, 1, -2, what -> x.share(0, what));
         row("27: comes", x::comes, 0, -1);
         row("28: stays", x::stays, 8191, 0);
         row("30: peak", x::peak, 0);
