@@ -16,6 +16,7 @@ final class ActsBounds {
         anActAllTheSame();
         behindTheEnd();
         full();
+        notAtHomeInZero();
         undoEmpty();
         anewEmpty();
         grown();
@@ -188,6 +189,24 @@ final class ActsBounds {
             for (int h = 0; h < n; h++) x.toss(11 - h);
             Check.due("62: how many there were", x.anew(), n);
             State.same("62: as without", State.ofIsle(x), before[0]);
+        }
+    }
+
+    /** Taken back, he is again where BEARER 0 is at home, which is not 0. */
+    private static void notAtHomeInZero() {
+        String text = ISLE.replace("bearer at 0", "bearer at 1").replace("fruit 9", "fruit 0")
+            + "brook at 1;";
+        NeckRider x = Check.told(text);
+        String before = State.ofIsle(x);
+        for (int round = 0; round < 2; round++) {
+            Check.due("58: wine in 1, from HOUR 3 on", x.offer(4), 1);
+            Check.due("59: to 0", x.carry(5, 0), 1);
+            Check.due("60: a BROOK, too", x.toss(6), 1);
+            Check.due("20: over", x.over(), 6);
+            if (round == 0) for (int i = 2; i >= 0; i--) Check.due("61: undo", x.undo(), i);
+            else Check.due("62: anew", x.anew(), 3);
+            Check.due("13: at home", x.at(0), 1);
+            State.same("61: as it was", State.ofIsle(x), before);
         }
     }
 

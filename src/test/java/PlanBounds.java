@@ -18,6 +18,7 @@ final class PlanBounds {
         rows();
         rowsInOrder();
         reachOfWine();
+        fallenInPlans();
         wine();
         bend();
         dams();
@@ -179,6 +180,20 @@ final class PlanBounds {
         Check.due("37: another one has him", x.rid(), 2);
     }
 
+    /** III: "(not FALLEN)", in a PLAN as in a ride: he of 0 fell on the way out. */
+    private static void fallenInPlans() {
+        String text = "isle places 3 hours 9 weight 2 odds 0;path 0 to 1;path 0 to 2;"
+            + "tree at 1 fruit 1;tree at 2 fruit 9;vine at 0 ripe 3;brook at 0;"
+            + "bearer at 0 strength 1;bearer at 1 strength 1;";
+        NeckRider x = Check.told(text);
+        Check.due("20: dropped in 0, on his way back", x.over(), 2);
+        Check.due("24: both fell", x.fallen(), 3);
+        plan(x, -1, 0);
+        Check.tell(x, text + "bearer at 0 strength 1;");
+        Check.due("14: another one has him", x.on(3), 2);
+        plan(x, 4, 1, 0, 0, 0, 1, 2);
+    }
+
     /** 40: "none by any is latest of all", "if later than now, the first of several". */
     private static void wine() {
         String text = "isle places 2 hours 12 weight 1 odds 0;path 0 to 1;brook at 0;"
@@ -326,6 +341,10 @@ final class PlanBounds {
         Check.due("45: the weaker is not asked", x.needs(2), 1);
         Check.due("45: with 5 he is not asked (the first is), with 6 not", x.needs(1), 1);
         Check.due("45: of BEARER 0", x.needs(0), 18);
+        // BEARER 0 is at home in the midst of a line, not in 0.
+        Check.tell(x, PlanTest.LINE.replace("bearer at 0", "bearer at 4"));
+        // He goes to 3, 2, where he eats, to 1, eats, to 2, 3 .. : 16 32 29 46 43 61 79 97.
+        Check.due("45: from his home", x.needs(0), 97);
         // Without a story there is no fall.
         Check.tell(x, Bounds.BARE + "bearer at 0 strength 99;");
         Check.due("45: he carries nobody", x.needs(0), 1);
@@ -342,6 +361,16 @@ final class PlanBounds {
         }
         NeckRider x = Check.told(RideBounds.FIVE);
         Check.due("46: the least", x.drops(), 1);
+        // No weight is below 1: of LAST, eleven meals heavier, 2 is the first above strength 12.
+        for (int strength = 1; strength <= 31; strength++) {
+            Check.tell(x, RideBounds.LAST.replace("strength 11", "strength " + strength));
+            int due = strength < 12 ? 1 : strength < 31 ? strength - 10 : -1;
+            Check.due("46: eleven meals, strength " + strength, x.drops(), due);
+        }
+        // From 1, his home, it is a PATH to the tree; from 0 it would be two.
+        Check.tell(x, "isle places 3 hours 9 weight 1 odds 0;path 0 to 1;path 1 to 2;"
+            + "tree at 2 fruit 1;bearer at 1 strength 9;");
+        Check.due("46: from his home", x.drops(), 10);
         Check.tell(x, Bounds.BARE + "bearer at 0 strength 1;");
         Check.due("46: he is never carried", x.drops(), -1);
         // Carried by acts alone he is dropped, but they do not count; thrown is not dropped.

@@ -225,6 +225,13 @@ final class SeenBounds {
         Check.tell(x, "isle places 3 hours 12 weight 1 odds 0;path 1 to 2;tree at 0 fruit 9;"
             + "tree at 1 fruit 1;bearer at 0 strength 99;");
         due(x, 0, 39, 8191, 7, 1, 23);
+        // The next tree, bare in all of them, tells nothing, and takes nothing from the first.
+        Check.tell(x, TWELVE + "tree at 0 fruit 9;tree at 0 fruit 0;tree at 1 fruit 0;"
+            + "bearer at 0 strength 1;");
+        due(x, 0, 26, 8191, 3, 0, 14);
+        Check.tell(x, TWELVE + "tree at 0 fruit 0;tree at 0 fruit 9;tree at 1 fruit 0;"
+            + "bearer at 0 strength 1;");
+        due(x, 0, 26, 8191, 3, 1, 14);
         // Ten amounts, 9 .. 0, of one each.
         Check.tell(x, "isle places 2 hours 9 weight 1 odds 0;path 0 to 1;tree at 0 fruit 9;"
             + "bearer at 0 strength 9;");

@@ -20,6 +20,7 @@ final class TextBounds {
         places();
         counts();
         everyByte();
+        everyLetter();
         everyEnd();
         fullTape();
         firstByPlace();
@@ -298,6 +299,28 @@ final class TextBounds {
         fault("isle places 2 hours 1 weight 1 od ds 0;", 1, 31);
         fault("isleplaces 2 hours 1 weight 1 odds 0;", 1, 0);
         fault(Bounds.BARE + ";", 1, 38);
+    }
+
+    /** I: a word is the one that is told, by each of its letters. */
+    private static void everyLetter() {
+        String text = "isle places 3 hours 2 weight 1 odds 0;path 0 to 1;tree at 0 fruit 1;"
+            + "vine at 0 ripe 1;brook at 0;bearer at 0 strength 1;";
+        Check.due("4: as told", Check.tell(new NeckRider(), text), 6);
+        int word = 0;
+        for (int i = 0; i < text.length(); i++) {
+            char sign = text.charAt(i);
+            if (!Character.isLetter(sign)) continue;
+            if (i == 0 || !Character.isLetter(text.charAt(i - 1))) word = i;
+            char other = sign == 'z' ? 'a' : (char) (sign + 1);
+            fault(text.substring(0, i) + other + text.substring(i + 1), 1, word);
+            fault(text.substring(0, i) + Character.toUpperCase(sign) + text.substring(i + 1), 1, word);
+            fault(text.substring(0, i) + sign + text.substring(i), 1, word);
+            fault(text.substring(0, i) + text.substring(i + 1), 1, word);
+        }
+        for (String turned : new String[] {"elsi places 3", "isle hours 2", "isle place 3"}) {
+            int place = turned.startsWith("isle") ? 5 : 0;
+            fault(turned + " weight 1 odds 0;", 1, place);
+        }
     }
 
     /** I: "its place (a TOKEN's first byte; the end's)", wherever a text is cut off. */
