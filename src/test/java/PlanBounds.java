@@ -221,6 +221,24 @@ final class PlanBounds {
             + "vine at 1 ripe 3;vine at 1 ripe 8;vine at 0 ripe 0;brook at 2;bearer at 0 strength 9;");
         Check.due("37: by the first and the third", x.rid(), 5);
         Check.due("40: never is latest", x.wine(), 2);
+        Check.tell(x, "isle places 3 hours 12 weight 1 odds 0;path 0 to 1;path 1 to 2;"
+            + "vine at 1 ripe 3;vine at 1 ripe 9;vine at 0 ripe 0;brook at 2;bearer at 0 strength 9;");
+        Check.due("40: later than the last HOUR, too", x.wine(), 2);
+        // One that he never comes to is none, ripe or not, told ahead or behind.
+        for (int ripe = 0; ripe <= 12; ripe++) {
+            String lone = "vine at 3 ripe " + ripe + ";";
+            String one = "vine at 0 ripe 5;";
+            String rest = text.replace("places 2", "places 4");
+            Check.tell(x, rest + one + lone);
+            Check.due("37: a lone one behind", x.rid(), 6);
+            Check.due("40: a lone one behind", x.wine(), 0);
+            Check.tell(x, rest + lone + one);
+            Check.due("37: a lone one ahead", x.rid(), 6);
+            Check.due("40: a lone one ahead", x.wine(), 1);
+            Check.tell(x, rest + lone + one + lone);
+            Check.due("37: two lone ones", x.rid(), 6);
+            Check.due("40: two lone ones", x.wine(), 1);
+        }
     }
 
     private static void wine(String text, int a, int b, int c, int due) {
@@ -240,6 +258,8 @@ final class PlanBounds {
         // He eats at 0 first; the tree at 2 leads him to the vine.
         bend(text, "tree at 0 fruit 1;tree at 0 fruit 2;tree at 0 fruit 3;tree at 2 fruit 1;", 2, 9);
         bend(text, "tree at 0 fruit 3;tree at 0 fruit 2;tree at 0 fruit 1;tree at 2 fruit 1;", 0, 9);
+        bend(text, "tree at 0 fruit 2;tree at 0 fruit 3;tree at 2 fruit 1;", 1, 8);
+        bend(text, "tree at 0 fruit 3;tree at 0 fruit 2;tree at 2 fruit 1;", 0, 8);
         bend(text, "tree at 0 fruit 2;tree at 0 fruit 2;tree at 2 fruit 1;", 0, 7);
         bend(text, "tree at 0 fruit 0;tree at 2 fruit 1;", -1, 3);
         bend(text, "tree at 2 fruit 1;", -1, 3);

@@ -232,6 +232,16 @@ final class SeenBounds {
         Check.tell(x, TWELVE + "tree at 0 fruit 0;tree at 0 fruit 9;tree at 1 fruit 0;"
             + "bearer at 0 strength 1;");
         due(x, 0, 26, 8191, 3, 1, 14);
+        // One fewer is fewer; and one fewer again, of the second.
+        Check.tell(x, "isle places 2 hours 1 weight 1 odds 0;tree at 0 fruit 1;"
+            + "bearer at 0 strength 1;");
+        due(x, 0, 4, 3, 3, 0, 3);
+        Check.tell(x, "isle places 3 hours 2 weight 1 odds 0;path 1 to 2;tree at 0 fruit 1;"
+            + "tree at 1 fruit 1;bearer at 0 strength 9;");
+        due(x, 0, 9, 7, 7, 1, 6);
+        Check.tell(x, "isle places 3 hours 2 weight 1 odds 0;path 1 to 2;tree at 1 fruit 1;"
+            + "tree at 0 fruit 1;bearer at 0 strength 9;");
+        due(x, 0, 9, 7, 7, 0, 6);
         // Ten amounts, 9 .. 0, of one each.
         Check.tell(x, "isle places 2 hours 9 weight 1 odds 0;path 0 to 1;tree at 0 fruit 9;"
             + "bearer at 0 strength 9;");

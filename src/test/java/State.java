@@ -9,12 +9,13 @@ import java.util.Map;
 final class State {
     /** What is asked, and each argument's first and last number: a step beyond the bounds. */
     private static final String[] OF_THE_ISLE = {"brooks", "over", "how", "eats", "fallen", "worst",
-        "hungry", "best", "lone", "drops", "beside -1 7", "steers -1 7", "reach -1 7", "comes -1 7",
-        "stays -1 7", "at -1 13", "on -1 13", "weighs -1 13", "does -1 13", "drunk -1 13",
-        "left -1 13", "carries -1 5", "peak -1 5", "from -1 5", "needs -1 5", "ripens -1 3",
-        "sure 0 100", "chance -1 2", "count 0 9", "tree -1 5 -1 2", "vine -1 3 -1 2",
-        "bearer -1 5 -1 2", "way -1 7 -1 7", "tired -1 5 -1 13", "fruit -1 5 -1 13",
-        "share -1 5 -1 2", "drawn 0 4 -1 3", "luck 0 2 0 3"};
+        "hungry", "lone", "beside -1 7", "steers -1 7", "reach -1 7", "comes -1 7", "stays -1 7",
+        "at -1 13", "on -1 13", "weighs -1 13", "does -1 13", "drunk -1 13", "left -1 13",
+        "carries -1 5", "peak -1 5", "ripens -1 3", "sure 0 100", "chance -1 2", "count 0 9",
+        "tree -1 5 -1 2", "vine -1 3 -1 2", "bearer -1 5 -1 2", "way -1 7 -1 7", "tired -1 5 -1 13",
+        "fruit -1 5 -1 13", "share -1 5 -1 2", "drawn 0 4 -1 3", "luck 0 2 0 3"};
+    /** Asked last of a ride, lest what is tried out for them hides what was left elsewhere. */
+    private static final String[] OF_OTHER_RIDES = {"best", "from -1 5", "drops", "needs -1 5"};
     private static final String[] OF_PLANS = {"rid", "ways", "wine", "bend", "dams", "plan -1 13",
         "bent -1 5", "dam -1 7"};
     private static final String[] OF_THE_REST = {"fits -1 4", "rode -1 4", "began -1 4", "ask -1 4",
@@ -26,17 +27,17 @@ final class State {
 
     /** All of it. */
     static String of(Object x) {
-        return ofIsle(x) + told(x, OF_THE_REST);
+        return told(x, OF_THE_REST) + ofIsle(x);
     }
 
     /** The ISLE and its acts, without the TAPE, the SLOTS and the latest FAULT. */
     static String ofIsle(Object x) {
-        return ofRide(x) + told(x, OF_PLANS);
+        return told(x, OF_THE_ISLE) + told(x, OF_PLANS) + told(x, OF_OTHER_RIDES);
     }
 
     /** The ISLE and its acts, without plans, which the Model finds slowly. */
     static String ofRide(Object x) {
-        return told(x, OF_THE_ISLE);
+        return told(x, OF_THE_ISLE) + told(x, OF_OTHER_RIDES);
     }
 
     /** Tells the first answer that is not the same. */

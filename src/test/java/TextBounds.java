@@ -16,6 +16,7 @@ final class TextBounds {
         isleOfNothing();
         isleFaulty();
         isleLeavesTheRest();
+        isleAfterAnother();
         numbersOfLines();
         places();
         counts();
@@ -178,6 +179,34 @@ final class TextBounds {
         Check.due("4: the row stays", x.count(11), 1);
         Check.due("4: the image stays", x.back(0), 0);
         State.same("4: as it was", State.ofIsle(x), State.ofIsle(Check.told(Bounds.FULL)));
+    }
+
+    /** 4: an ISLE in place of any other, or behind a FAULT, is as it is in a new object. */
+    private static void isleAfterAnother() {
+        String[] texts = {Bounds.BARE, Bounds.FULL, IsleTest.SQUARE, RideTest.FALLS, RideTest.DROPPED,
+            RideTest.RIDERLESS, RideBounds.MEALS, RideBounds.STEP, RideBounds.LAST, RideBounds.FIVE,
+            RideBounds.WINE, PlanTest.LINE, PlanTest.LONGEST, PlanBounds.SOONEST, PlanBounds.STAR};
+        String[] due = new String[texts.length];
+        for (int i = 0; i < texts.length; i++) due[i] = State.ofIsle(Check.told(texts[i]));
+        NeckRider x = new NeckRider();
+        for (int step = 1; step < texts.length; step++) {
+            for (int i = 0; i < texts.length; i++) {
+                // Every one comes behind every other one, and behind a FAULT in another's midst.
+                int other = (i + step) % texts.length;
+                Check.tell(x, texts[other]);
+                State.of(x);
+                x.image(2);
+                Check.tell(x, texts[i]);
+                State.same("4: in place of another", State.ofIsle(x), due[i]);
+                Check.tell(x, texts[other] + "!");
+                State.same("4: behind a FAULT", State.ofIsle(x), due[i]);
+                x.image(0);
+                x.back(2);
+                State.same("68: the other one", State.ofIsle(x), due[other]);
+                x.back(0);
+                State.same("68: and back", State.ofIsle(x), due[i]);
+            }
+        }
     }
 
     /** I: "places 2 .. 7, hours 1 .. 12, weight 1 .. 20, odds 0 .. 10", "fruit 0 .. 9; ripe .." */
