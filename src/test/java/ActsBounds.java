@@ -1,9 +1,16 @@
+import java.util.List;
+import java.util.function.ToLongFunction;
+
 /** Promises 58 to 62, 65, 67 and 68 at their bounds: each refused call leaves all as it was. */
 final class ActsBounds {
     /** He drinks and sleeps where a brook is; the other place is a path off. */
     private static final String ISLE = "isle places 2 hours 12 weight 3 odds 5;path 0 to 1;"
         + "tree at 1 fruit 9;vine at 0 ripe 0;vine at 1 ripe 3;brook at 0;bearer at 0 strength 50;"
         + "bearer at 1 strength 40;";
+
+    private static final String FOUR_AT_ZERO = "isle places 6 hours 3 weight 9 odds 9;path 0 to 5;"
+        + "tree at 0 fruit 3;tree at 5 fruit 1;tree at 0 fruit 2;bearer at 0 strength 3;"
+        + "bearer at 0 strength 3;bearer at 0 strength 3;bearer at 0 strength 3;";
 
     private ActsBounds() { }
 
@@ -17,6 +24,7 @@ final class ActsBounds {
         behindTheEnd();
         full();
         notAtHomeInZero();
+        nothingLeftBehind();
         undoEmpty();
         anewEmpty();
         grown();
@@ -210,6 +218,37 @@ final class ActsBounds {
         }
     }
 
+    /** What is tried out, or read and found at FAULT, is not met by the calls behind it. */
+    private static void nothingLeftBehind() {
+        String text = ISLE.replace("bearer at 0", "bearer at 1")
+            .replace("places 2", "places 3") + "tree at 1 fruit 0;tree at 2 fruit 1;";
+        List<ToLongFunction<NeckRider>> calls = List.of(x -> x.lone(), x -> x.offer(3),
+            x -> x.at(0), x -> x.carry(4, 0), x -> x.at(5), x -> x.toss(5), x -> x.over(), x -> x.undo(),
+            x -> x.over(), x -> x.at(0), x -> x.at(12), x -> x.anew(), x -> x.at(0), x -> x.at(4),
+            x -> x.grow(1, 9), x -> x.at(0), x -> x.grow(3, 0), x -> x.eats(), x -> x.image(0), x -> x.row(0, 0, 0), x -> x.fits(0),
+            x -> x.rode(0), x -> x.began(0), x -> x.ask(0), x -> x.leaves(0), x -> x.row(0, 0, 2),
+            x -> x.fits(0), x -> x.write(0, 0, 1), x -> x.fits(0), x -> x.write(0, 0, 2),
+            x -> x.fits(0), x -> x.from(0), x -> x.from(1), x -> x.best(), x -> x.needs(0),
+            x -> x.needs(1), x -> x.drops(), x -> x.rid(), x -> x.ways(), x -> x.plan(3),
+            x -> x.plan(4), x -> x.bend(), x -> x.bent(0), x -> x.bent(1), x -> x.wine(),
+            x -> x.dam(0), x -> x.dam(1), x -> x.dams(), x -> x.back(0), x -> x.on(12), x -> x.left(5));
+        List<ToLongFunction<NeckRider>> between = List.of(x -> Check.tell(x, "!"),
+            x -> Check.tell(x, Bounds.FULL + "!"), x -> Check.tell(x, Bounds.BARE + "!"),
+            x -> Check.tell(x, FOUR_AT_ZERO + "path 7"), x -> x.needs(0), x -> x.needs(1),
+            x -> x.drops(), x -> x.bent(0), x -> x.bent(1), x -> x.dam(0), x -> x.dam(1),
+            x -> x.wine(), x -> x.from(1), x -> x.fits(0), x -> x.drawn(1, 1), x -> x.luck(1, 20),
+            x -> x.rid());
+        for (int i = 0; i < between.size(); i++) {
+            NeckRider x = Check.told(text);
+            NeckRider y = Check.told(text);
+            for (int k = 0; k < calls.size(); k++) {
+                between.get(i).applyAsLong(x);
+                Check.due("4: behind " + i + ", call " + k, calls.get(k).applyAsLong(x),
+                    calls.get(k).applyAsLong(y));
+            }
+        }
+    }
+
     /** 61: "-2: there is no ISLE; -5: there is none". */
     private static void undoEmpty() {
         for (String text : new String[] {ISLE, Bounds.BARE, Bounds.FULL}) {
@@ -365,6 +404,11 @@ final class ActsBounds {
             Bounds.refused("58: its act is in it", x, -5, () -> x.offer(1));
             Check.due("68: back", x.back(1), 0);
             State.same("68: there was no ISLE", State.ofIsle(x), none);
+            Bounds.refused("61: there was no ISLE", x, -2, x::undo);
+            Bounds.refused("62: there was no ISLE", x, -2, x::anew);
+            Bounds.refused("58: there was no ISLE", x, -2, () -> x.offer(0));
+            Bounds.refused("65: there was no ISLE", x, -2, () -> x.grow(0, 0));
+            Bounds.refused("47: there was no ISLE", x, -2, () -> x.fits(0));
             Check.due("68: back", x.back(0), 0);
             State.same("68: as it had grown", State.ofIsle(x), grown);
         }
