@@ -1231,7 +1231,7 @@ public final class NeckRider {
             for (int bearer = 0; bearer < bearers; bearer++) {
                 int strength = Cells.get(bearerStrength, bearer);
                 boolean free = !Cells.bit(fallenBits, bearer);
-                if (free && homeOf(bearer) == place && strength > most) {
+                if (free && Cells.get(bearerHome, bearer) == place && strength > most) {
                     most = strength;
                     found = bearer;
                 }
@@ -1334,17 +1334,46 @@ public final class NeckRider {
             return hour < soberHour;
         }
 
+        /** Whether an act can be in an HOUR; none can always be. */
+        private boolean allows(Isle isle, int hour, int act) {
+            if (act == NO_ACT) {
+                return true;
+            }
+            if (act == OFFER) {
+                int vine = isle.ripeVineAt(place, hour, emptiedBits);
+                return !isDrunkIn(hour) && vine != NONE;
+            }
+            if (!isDrunkIn(hour)) {
+                return false;
+            }
+            if (act == THROW) {
+                return Cells.bit(isle.brookBits, place);
+            }
+            return Cells.bit(Cells.get(isle.besideBits, place), act - CARRY);
+        }
+
         /** Lives through an HOUR with an act: what is done in it. */
         private int pass(Isle isle, int hour, int act) {
-            actWorked = false;
+            actWorked = bearer != NONE && act != NO_ACT && allows(isle, hour, act);
             if (bearer == NONE) {
                 return NOTHING;
             }
-            if (act == OFFER && !isDrunkIn(hour)) {
-                drink(isle.ripeVineAt(place, hour, emptiedBits), hour);
+            // An act that can't be is none.
+            int held = actWorked ? act : NO_ACT;
+            if (held == THROW) {
+                finish(BY_THROW);
+                return THROWN;
+            }
+            if (held >= CARRY) {
+                carryTo(isle, held - CARRY);
+                return CARRIED;
+            }
+            if (held == OFFER) {
+                emptiedBits |= 1 << isle.ripeVineAt(place, hour, emptiedBits);
+                soberHour = hour + DRUNK_HOURS;
             }
             if (isDrunkIn(hour)) {
-                return passDrunk(isle, act);
+                return SLEEPS;
             }
             int tree = isle.steering(place, fruitLeft);
             if (tree == NONE) {
@@ -1357,28 +1386,6 @@ public final class NeckRider {
             }
             carryTo(isle, isle.firstStep(place, goal));
             return CARRIED;
-        }
-
-        private void drink(int vine, int hour) {
-            if (vine != NONE) {
-                emptiedBits |= 1 << vine;
-                soberHour = hour + DRUNK_HOURS;
-                actWorked = true;
-            }
-        }
-
-        private int passDrunk(Isle isle, int act) {
-            if (act == THROW && Cells.bit(isle.brookBits, place)) {
-                actWorked = true;
-                finish(BY_THROW);
-                return THROWN;
-            }
-            if (act >= CARRY && Cells.bit(Cells.get(isle.besideBits, place), act - CARRY)) {
-                actWorked = true;
-                carryTo(isle, act - CARRY);
-                return CARRIED;
-            }
-            return SLEEPS;
         }
 
         private void eatOf(int tree) {
@@ -1503,8 +1510,10 @@ public final class NeckRider {
             for (int place = 0; place < isle.places; place++) {
                 Cells.put(brookWay, place, wayToBrook(isle, place));
             }
-            rides[0].begin(isle, 0, isle.homeOf(0));
-            seek(isle, 0);
+            if (rides.length > 0) {
+                rides[0].begin(isle, 0, isle.homeOf(0));
+                seek(isle, 0);
+            }
         }
 
         private static int wayToBrook(Isle isle, int place) {
@@ -1524,37 +1533,20 @@ public final class NeckRider {
                 return;
             }
             Ride here = rides[now];
+            Ride next = rides[now + 1];
             if (here.bearer == NONE || soonestThrow(isle, here, now) > limit) {
                 return;
             }
-            attempt(isle, now, NO_ACT);
-            if (!here.isDrunkIn(now)) {
-                if (isle.ripeVineAt(here.place, now, here.emptiedBits) != NONE) {
-                    attempt(isle, now, OFFER);
+            for (int act = NO_ACT; act < CARRY + isle.places; act++) {
+                if (here.allows(isle, now, act)) {
+                    next.copyFrom(here);
+                    Cells.put(triedRow, now, act);
+                    if (next.pass(isle, now, act) == THROWN) {
+                        found(now);
+                    } else {
+                        seek(isle, now + 1);
+                    }
                 }
-                return;
-            }
-            if (Cells.bit(isle.brookBits, here.place)) {
-                attempt(isle, now, THROW);
-            }
-            for (int other = 0; other < isle.places; other++) {
-                if (Cells.bit(Cells.get(isle.besideBits, here.place), other)) {
-                    attempt(isle, now, CARRY + other);
-                }
-            }
-        }
-
-        private void attempt(Isle isle, int now, int act) {
-            if (now < 0 || now + 1 >= rides.length) {
-                return;
-            }
-            Ride next = rides[now + 1];
-            next.copyFrom(rides[now]);
-            Cells.put(triedRow, now, act);
-            if (next.pass(isle, now, act) == THROWN) {
-                found(now);
-            } else {
-                seek(isle, now + 1);
             }
         }
 

@@ -22,6 +22,7 @@ public final class AllTests {
         SlotBounds.run();
         EdgeTest.run();
         LanguageTest.run(args.length > 0 ? args[0] : "src/main/java/NeckRider.java");
+        ReadmeTest.run("README.md");
         RandomRuns.run(1, runs);
         Check.everyPromise();
         System.out.println(Check.closingLine());

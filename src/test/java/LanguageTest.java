@@ -36,6 +36,7 @@ final class LanguageTest {
             String source = Files.readString(Path.of(file), StandardCharsets.ISO_8859_1);
             words(bare(source), source);
             methodLengths(bare(source));
+            CallDepth.run(bare(source));
         } catch (IOException e) {
             Check.holds("the source " + file + " can be read: " + e, false);
         }
@@ -88,6 +89,8 @@ final class LanguageTest {
             for (Method m : c.getDeclaredMethods()) {
                 Check.holds("seven parameters at most: " + m, m.getParameterCount() <= 7);
                 boolean isFace = c == NeckRider.class && Modifier.isPublic(m.getModifiers());
+                Check.holds("of the face, or hidden: " + m,
+                    isFace || Modifier.isPrivate(m.getModifiers()) || m.isSynthetic());
                 Check.holds("not a name of the face: " + m, isFace || !open.contains(m.getName()));
             }
         }
