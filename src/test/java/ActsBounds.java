@@ -24,6 +24,7 @@ final class ActsBounds {
         behindTheEnd();
         full();
         notAtHomeInZero();
+        eachVineOnce();
         nothingLeftBehind();
         undoEmpty();
         anewEmpty();
@@ -216,6 +217,27 @@ final class ActsBounds {
             Check.due("13: at home", x.at(0), 1);
             State.same("61: as it was", State.ofIsle(x), before);
         }
+    }
+
+    /** 58: "not drunk up": of VINES in one PLACE each is drunk up once, whichever is ripe first. */
+    private static void eachVineOnce() {
+        String isle = "isle places 2 hours 12 weight 1 odds 0;path 0 to 1;vine at 0 ripe 2;"
+            + "vine at 1 ripe 0;vine at 0 ripe 0;bearer at 0 strength 9;";
+        NeckRider x = Check.told(isle);
+        Check.due("58: the later of them is ripe first", x.offer(0), 1);
+        Check.due("58: the first of them, in the first HOUR when he is sober", x.offer(3), 1);
+        Check.due("58: both are drunk up", x.offer(6), 0);
+        Check.due("58: and stay so", x.offer(9), 0);
+        Check.due("19: DRUNK by the second", x.drunk(5), 1);
+        Check.due("19: not by a third", x.drunk(6), 0);
+        NeckRider y = Check.told(isle.replace("ripe 2", "ripe 4"));
+        Check.due("58: the ripe one", y.offer(0), 1);
+        Check.due("58: the other one is not ripe", y.offer(3), 0);
+        Check.due("58: its HOUR", y.offer(4), 1);
+        Check.due("58: both are drunk up", y.offer(7), 0);
+        NeckRider z = Check.told(isle.replace("ripe 2", "ripe 0").replace("at 1", "at 0"));
+        for (int hour : new int[] {0, 3, 6}) Check.due("58: three in " + hour, z.offer(hour), 1);
+        Check.due("58: three are drunk up", z.offer(9), 0);
     }
 
     /** What is tried out, or read and found at FAULT, is not met by the calls behind it. */
